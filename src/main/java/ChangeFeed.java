@@ -258,6 +258,7 @@ public final class ChangeFeed {
         private int size = 0;
 
         int write(int kind, int transaction, int key, long row) {
+            // Never so, since every writer looks for room first; the index is looked at all the same.
             if (size >= LOG_PLACES) {
                 return FULL;
             }
@@ -435,6 +436,7 @@ public final class ChangeFeed {
 
     /** The chunk of the snapshot that is being taken, if there is one. */
     private static final class ChunkWork {
+        // The phases after IDLE have the numbers that snapshot() answers on coming to them.
         private static final int IDLE = 0;
         private static final int LOW_WRITTEN = 1;
         private static final int SELECTED = 2;
@@ -473,8 +475,6 @@ public final class ChangeFeed {
 
         void stop() {
             phase = IDLE;
-            low = NONE;
-            high = NONE;
         }
 
         boolean isLowBefore(int place) {
@@ -593,7 +593,7 @@ public final class ChangeFeed {
             if (!source.hasRoom(1, 0)) {
                 return FULL;
             }
-            work.start(log.write(LOW, NONE, next, NO_ROW));
+            work.start(log.write(LOW, NONE, NONE, NO_ROW));
             return work.phase;
         }
 
@@ -601,6 +601,7 @@ public final class ChangeFeed {
             if (!source.hasRoom(1, 0)) {
                 return FULL;
             }
+            // The sink finds in the entry where the chunk begins.
             work.close(log.write(HIGH, NONE, next, NO_ROW));
             return work.phase;
         }

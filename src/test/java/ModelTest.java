@@ -181,6 +181,10 @@ public final class ModelTest {
 
     /** Mostly within 0 .. most - 1, at times just outside, at times far off. */
     private int near(int most) {
-        return random.nextInt(40) == 0 ? EDGES[random.nextInt(EDGES.length)] : random.nextInt(Math.max(most, 1) + (random.nextInt(8) == 0 ? 1 : 0));
+        if (random.nextInt(40) == 0) {
+            return EDGES[random.nextInt(EDGES.length)];
+        }
+        int outside = random.nextInt(8) == 0 ? 1 : 0;
+        return random.nextInt(Math.max(most, 1) + outside);
     }
 }

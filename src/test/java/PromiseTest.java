@@ -21,6 +21,7 @@ public final class PromiseTest {
         promise7Row();
         promise8CrashSource();
         promise8CrashPipeline();
+        promise8CrashPipelineNext();
         promise8CrashPipelineMidChunk();
         promise8CrashSink();
         promise9Snapshot();
@@ -36,6 +37,7 @@ public final class PromiseTest {
         promise12TickSendsIntoAFullChannel();
         promise13Deliver();
         promise13DeliverAck();
+        promise13DeliverAckKeepsTheTimes();
         promise13DeliverOldEpoch();
         promise14Alter();
         promise15Flight();
@@ -369,19 +371,22 @@ public final class PromiseTest {
         x.crash(1);
         x.step(100);
         packetIs(x, x.flight() - 1, 0, 3, 5, 3);
+    }
+
+    private static void promise8CrashPipelineNext() {
+        ChangeFeed x = new ChangeFeed(4, 1, 3, 0);
         storeChunk(x);
+        x.snapshot();
+        x.snapshot();
+        x.snapshot();
+        x.step(9);
+        DUE.is("8 the chunk of key 2 begins", x.snapshot(), 1);
+        x.crash(1);
         DUE.is("8 progress", x.progress(), 1);
-        DUE.is("8 two steps of a chunk", x.snapshot() + x.snapshot(), 3);
-        x.snapshot();
-        x.step(100);
-        DUE.is("8 NEXT is 2 now", x.snapshot(), 1);
-        DUE.is("8 pipeline", x.crash(1), true);
-        x.snapshot();
-        x.snapshot();
-        x.snapshot();
-        finishAll(x);
-        DUE.is("8 NEXT was PROGRESS", x.progress(), 2);
-        DUE.is("8 NEXT was PROGRESS", x.stored(1), row(0, 2));
+        storeChunk(x);
+        DUE.is("8 NEXT was PROGRESS", x.stored(1), row(1, 10));
+        DUE.is("8 NEXT was PROGRESS", x.stored(2), NO_ROW);
+        DUE.is("8 progress", x.progress(), 2);
     }
 
     private static void promise8CrashPipelineMidChunk() {
@@ -772,6 +777,21 @@ public final class PromiseTest {
             DUE.is("13 at most one waits", x.waiting() <= 1, true);
         }
         DUE.is("13 none waits", x.waiting(), 0);
+    }
+
+    private static void promise13DeliverAckKeepsTheTimes() {
+        ChangeFeed x = new ChangeFeed(4, 2, 3, 0);
+        commitPut(x, 0, 0, 1);
+        x.step(9);
+        x.tick(2);
+        commitPut(x, 1, 0, 1);
+        x.step(9);
+        x.deliver(0);
+        x.apply();
+        x.deliver(1);
+        DUE.is("13 one waits", x.waiting(), 1);
+        DUE.is("13 its own time", x.tick(2), 0);
+        DUE.is("13 its own time", x.tick(1), 1);
     }
 
     private static void promise13DeliverOldEpoch() {
