@@ -1,18 +1,13 @@
 /** Counts and prints the answers that are not as due. */
 final class Due {
-    private final String test;
     private int wrong = 0;
     private int checks = 0;
-
-    Due(String test) {
-        this.test = test;
-    }
 
     void is(String what, long got, long want) {
         checks++;
         if (got != want) {
             wrong++;
-            System.out.println(test + ": " + what + " answered " + got + ", due is " + want);
+            System.out.println(what + " answered " + got + ", due is " + want);
         }
     }
 
@@ -21,7 +16,7 @@ final class Due {
     }
 
     void finish() {
-        System.out.println(test + ": " + checks + " checks, " + wrong + " wrong");
+        System.out.println(checks + " checks, " + wrong + " wrong");
         if (wrong != 0 || checks == 0) {
             System.exit(1);
         }

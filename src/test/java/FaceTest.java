@@ -12,7 +12,7 @@ import java.util.regex.Pattern;
 
 /** The face of the class is the document's, and the file keeps to the rules of the language that can be seen in its text. */
 public final class FaceTest {
-    private static final Due DUE = new Due("FaceTest");
+    private static final Due DUE = new Due();
 
     private static final Set<String> FACE = Set.of(
             "int begin()", "int lock(int,int)", "int put(int,int,int,int)", "int remove(int,int)",

@@ -11,7 +11,7 @@ public final class ModelTest {
             "waiting", "tick", "deliver", "alter", "flight", "packet", "apply", "stored", "view", "position",
             "progress"};
 
-    private static final Due DUE = new Due("ModelTest");
+    private static final Due DUE = new Due();
 
     private final Random random;
     private final int[] weights = new int[NAMES.length];

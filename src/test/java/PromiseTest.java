@@ -1,10 +1,5 @@
 /** One method for each promise of the document: ordinary inputs, the edges that it names, wrong inputs. */
-public final class PromiseTest {
-    private static final Due DUE = new Due("PromiseTest");
-    private static final int BAD = -2;
-    private static final int LOCKED = -3;
-    private static final int FULL = -4;
-    private static final long NO_ROW = -1;
+public final class PromiseTest extends Checks {
     private static final int[] FAR = {Integer.MIN_VALUE, -2, -1, 4, 5, 12, 13, 160, 1000, Integer.MAX_VALUE};
 
     public static void main(String[] args) {
@@ -1156,48 +1151,5 @@ public final class PromiseTest {
         x.stored(a);
         x.view(a, b > 0);
         x.crash(a == 1 && b != 1 ? 2 : a);
-    }
-
-    private static long row(int group, int amount) {
-        return group * 4294967296L + (amount < 0 ? amount + 4294967296L : amount);
-    }
-
-    private static void packetIs(ChangeFeed x, int i, int kind, int epoch, int position, int before) {
-        DUE.is("packet(" + i + ", 0)", x.packet(i, 0), kind);
-        DUE.is("packet(" + i + ", 1)", x.packet(i, 1), epoch);
-        DUE.is("packet(" + i + ", 2)", x.packet(i, 2), position);
-        DUE.is("packet(" + i + ", 3)", x.packet(i, 3), before);
-    }
-
-    private static void commitPut(ChangeFeed x, int k, int g, int amount) {
-        int n = x.begin();
-        DUE.is("put", x.put(n, k, g, amount), 0);
-        DUE.is("end", x.end(n, true) >= 0, true);
-    }
-
-    private static void fillLog(ChangeFeed x, int n, int entries) {
-        for (int i = 0; i < entries; i++) {
-            DUE.is("fill", x.put(n, 0, 0, 5), 0);
-        }
-    }
-
-    private static void storeChunk(ChangeFeed x) {
-        DUE.is("low", x.snapshot(), 1);
-        DUE.is("select", x.snapshot(), 2);
-        DUE.is("high", x.snapshot(), 3);
-        finishAll(x);
-    }
-
-    /** Reads, delivers and stores till nothing is left of the log, the queue and the channel. */
-    private static void finishAll(ChangeFeed x) {
-        for (int round = 0; round < 10 && (x.step(100) > 0 || x.waiting() > 0); round++) {
-            if (x.flight() == 0) {
-                x.tick(20);
-            }
-            for (int i = 0; i < 16 && x.deliver(0); i++) {
-                x.apply();
-            }
-        }
-        DUE.is("all is stored", x.waiting() + x.step(1), 0);
     }
 }
