@@ -104,6 +104,7 @@ public final class BoundaryTest extends Checks {
         crashOfParties0To2();
         aSourceCrashEndsAllThatAreOpen();
         aSourceCrashWithNoneOpen();
+        aCrashLeavesTheOtherParties();
         aPipelineCrashOfANewObject();
         aPipelineCrashBetweenReadAndStored();
         snapshotUpToK();
@@ -1138,6 +1139,30 @@ public final class BoundaryTest extends Checks {
         DUE.is("nothing is written", x.step(100), 0);
         DUE.is("the first number", x.begin(), 0);
         DUE.is("the first position", x.end(0, true), 0);
+    }
+
+    private static void aCrashLeavesTheOtherParties() {
+        for (int party = 0; party <= 2; party++) {
+            ChangeFeed x = new ChangeFeed(4, 2, 3, 0);
+            commitPut(x, 0, 1, 1);
+            commitPut(x, 1, 1, 2);
+            x.step(100);
+            storePacket(x, 0);
+            x.deliver(0);
+            x.begin();
+            x.put(2, 2, 1, 3);
+            x.snapshot();
+            x.tick(2);
+            DUE.is("crash", x.crash(party), true);
+            DUE.is("open but for the source's", x.row(2, 2), party == 0 ? NO_ROW : row(1, 3));
+            DUE.is("the queue but for the pipeline's", x.waiting(), party == 1 ? 0 : 2);
+            DUE.is("the times but for the pipeline's", x.tick(1), party == 1 ? 0 : 2);
+            DUE.is("the chunk work but for the pipeline's", x.snapshot(), party == 1 ? 1 : 2);
+            DUE.is("staged after the source's alone", x.apply(), party == 0);
+            DUE.is("POSITION", x.position(), party == 0 ? 3 : 1);
+            DUE.is("what is stored", x.stored(0), row(1, 1));
+            DUE.is("the table", x.row(-1, 1), row(1, 2));
+        }
     }
 
     private static void aPipelineCrashOfANewObject() {
